@@ -169,7 +169,7 @@ public final class CrewShares {
     }
 
     private Trip tripAt(int number) {
-        return number >= 0 && number < tripCount && number < MOST_TRIPS ? trips[number] : null;
+        return number >= 0 && number < tripCount ? trips[number] : null;
     }
 
     private Trip tripToSettle(int number) {
@@ -207,7 +207,6 @@ public final class CrewShares {
         }
 
         void rewind() {
-            wordStart = 0;
             wordEnd = 0;
             wordNumber = -1;
         }
@@ -602,7 +601,7 @@ public final class CrewShares {
             if (draft.size == 0 || draft.total() != 0 || isFull()) {
                 return 0;
             }
-            int number = append(draft);
+            int number = putIn(draft);
             draft = new Entry();
             isOpen = false;
             return number;
@@ -637,7 +636,7 @@ public final class CrewShares {
             opposite.startOn(day);
             opposite.addReversed(old);
             opposite.takesBack = number;
-            old.takenBackBy = append(opposite);
+            old.takenBackBy = putIn(opposite);
             return old.takenBackBy;
         }
 
@@ -663,7 +662,7 @@ public final class CrewShares {
             return row == NONE ? e.tellHead(what) : e.tellRow(row, what);
         }
 
-        private int append(Entry e) {
+        private int putIn(Entry e) {
             if (size < MOST_ENTRIES) {
                 entries[size] = e;
                 size++;
@@ -672,7 +671,7 @@ public final class CrewShares {
         }
 
         private Entry entryAt(int number) {
-            return number >= 1 && number <= size && number <= MOST_ENTRIES ? entries[number - 1] : null;
+            return number >= 1 && number <= size ? entries[number - 1] : null;
         }
 
         private boolean isFull() {

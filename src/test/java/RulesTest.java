@@ -167,6 +167,8 @@ public final class RulesTest {
         Due.read(x, "ship 10 gear 20 cost 0 2 role 0 5 least 0 900");
         due.is("empty text: read()", x.read(), 0);
         settlesWithoutRules(x);
+        due.is("empty text again: read()", x.read(), 0);
+        settlesWithoutRules(x);
     }
 
     private static void settlesWithoutRules(CrewShares x) {
@@ -190,6 +192,7 @@ public final class RulesTest {
         due.is("read()", Due.read(x, "ship 50 gear 50 cost 0 1 role 0 1 least 0 9999 x"), -14);
         due.is("read()", Due.read(x, "ship 1"), 1);
         due.is("read()", Due.read(x, "ship 30 ship"), -3);
+        due.is("read()", Due.read(x, "x"), -1);
         x.trip(0, 100);
         x.settle(0);
         due.is("the rules stay: part(0, 1)", x.part(0, 1), 100);

@@ -7,6 +7,7 @@ public final class SettlingTest {
         settleIsRefused();
         lossIsCarriedByTheShip();
         centsGoToTheMostCut();
+        centsAmongTwelve();
         crewsCostsComeOffTheShipsPartToo();
         shipHasTheCrewsPartWithoutWeights();
         leastPayComesFromTheShip();
@@ -124,6 +125,36 @@ public final class SettlingTest {
         shares("two of seven", v, 0, 1, 3);
         shares("three of seven", v, 0, 2, 5);
         shares("one of seven, later", v, 0, 3, 1);
+    }
+
+    private static void centsAmongTwelve() {
+        CrewShares x = made("", "000000000000", 23);
+        x.trip(0, 2);
+        for (int p = 0; p < 12; p++) {
+            x.days(0, p, 1);
+        }
+        for (int p = 0; p < 4; p++) {
+            x.days(1, p + 2, 1);
+        }
+        x.settle(0);
+        x.settle(1);
+        for (int p = 0; p < 12; p++) {
+            shares("23 cents to twelve", x, 0, p, p < 11 ? 2 : 1);
+            shares("2 cents to four of twelve", x, 1, p, p == 2 || p == 3 ? 1 : 0);
+        }
+        CrewShares y = made("role 9 5", "000000000009", 16);
+        for (int p = 0; p < 12; p++) {
+            y.days(0, p, 1);
+        }
+        y.trip(0, 3);
+        y.days(1, 0, 1);
+        y.days(1, 1, 1);
+        y.settle(0);
+        y.settle(1);
+        shares("all whole", y, 0, 0, 1);
+        shares("all whole", y, 0, 11, 5);
+        shares("the first of two", y, 1, 0, 2);
+        shares("the second of two", y, 1, 1, 1);
     }
 
     private static void crewsCostsComeOffTheShipsPartToo() {
