@@ -37,4 +37,16 @@ final class Due {
         write(x, text);
         return x.read();
     }
+
+    /** A new object with such rules and a person for each digit of the roles. */
+    static CrewShares made(String rules, String roles) {
+        CrewShares x = new CrewShares();
+        if (read(x, rules) < 0) {
+            throw new IllegalStateException("wrong rules in a test: " + rules);
+        }
+        for (int i = 0; i < roles.length(); i++) {
+            x.person(roles.charAt(i) - '0');
+        }
+        return x;
+    }
 }

@@ -2,8 +2,9 @@ import java.util.Random;
 
 /** All promises: long runs of calls, drawn from fixed seeds, answer as the model does. */
 public final class ModelTest {
-    private static final int RUNS = 1000;
-    private static final int CALLS = 500;
+    private static final int RUNS = 3000;
+    private static final int CALLS = 360;
+    private static final int MOST_CALLS = 512;
     private static final int[] ODD = {-1, 0, 1, 4, 9, 10, 12, 20, 60, 61, 100, 120, 400, 401, 3600,
         Integer.MIN_VALUE, Integer.MAX_VALUE};
     private static final long[] ODD_CENTS = {-1, 0, 1, 1000000000L, 1000000001L, 1000000000000L, 1000000000001L,
@@ -39,7 +40,7 @@ public final class ModelTest {
                     test.callOfBook();
                 }
             }
-            test.compareAll();
+            test.ask();
         }
         due.end();
     }
@@ -124,26 +125,16 @@ public final class ModelTest {
         }
     }
 
-    /** What the whole state tells; these calls are over the 512, which this program does not count. */
-    private void compareAll() {
-        for (int t = 0; t < 21; t++) {
-            same("sums", x.sums(t), m.sums(t));
-            for (int what = 0; what < 6; what++) {
-                same("part", x.part(t, what), m.part(t, what));
-            }
-            for (int p = 0; p < 48; p++) {
-                same("share", x.share(t, p / 4, p % 4), m.share(t, p / 4, p % 4));
-            }
-        }
-        for (int who = -1; who < 114; who++) {
-            same("carried", x.carried(who), m.carried(who));
-        }
-        for (int i = 0; i < 20 * 120; i++) {
-            same("balance", x.balance(i / 120, i % 120), m.balance(i / 120, i % 120));
-        }
-        for (int e = 0; e < 62; e++) {
-            for (int i = 0; i < 40; i++) {
-                same("entry", x.entry(e, i / 4 - 1, i % 4), m.entry(e, i / 4 - 1, i % 4));
+    /** Asks for what the state tells, here and there, with the calls that are left of the 512. */
+    private void ask() {
+        while (calls < MOST_CALLS - 2) {
+            switch (random.nextInt(6)) {
+                case 0: { int t = random.nextInt(21); int w = random.nextInt(7); same("part", x.part(t, w), m.part(t, w)); break; }
+                case 1: { int t = random.nextInt(20); int p = random.nextInt(12); int w = random.nextInt(4); same("share", x.share(t, p, w), m.share(t, p, w)); break; }
+                case 2: { int w = random.nextInt(3) == 0 ? random.nextInt(4) : 100 + random.nextInt(12); same("carried", x.carried(w), m.carried(w)); break; }
+                case 3: { int t = random.nextInt(21); same("sums", x.sums(t), m.sums(t)); break; }
+                case 4: { int a = random.nextInt(20); int c = random.nextInt(120); same("balance", x.balance(a, c), m.balance(a, c)); break; }
+                default: { int e = some(entries + 2); int r = random.nextInt(10) - 2; int w = random.nextInt(4); same("entry", x.entry(e, r, w), m.entry(e, r, w)); }
             }
         }
         same("drop", x.drop(), m.drop());

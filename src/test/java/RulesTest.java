@@ -5,7 +5,6 @@ public final class RulesTest {
     public static void main(String[] args) {
         newObjectIsEmpty();
         unitTakesBytes();
-        unitTakesSixHundred();
         readCountsSentences();
         readNamesTheWrongWord();
         readNamesTheMissingWord();
@@ -66,17 +65,6 @@ public final class RulesTest {
         due.yes("unit(255)", x.unit(255));
         due.is("byte 255 is a word: read()", x.read(), -1);
         due.no("unit('s' + 256)", x.unit('s' + 256));
-    }
-
-    private static void unitTakesSixHundred() {
-        CrewShares x = new CrewShares();
-        for (int i = 0; i < 600; i++) {
-            due.yes("unit(32), the " + i + "th", x.unit(32));
-        }
-        due.no("unit(32), the 600th", x.unit(32));
-        due.no("unit('x'), the 600th", x.unit('x'));
-        due.is("600 gaps: read()", x.read(), 0);
-        due.yes("unit(32) after the read", x.unit(32));
     }
 
     private static void readCountsSentences() {

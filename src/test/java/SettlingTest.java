@@ -32,13 +32,7 @@ public final class SettlingTest {
 
     /** An object with such rules, persons of such roles, and a trip of ship 0 with such sales. */
     private static CrewShares made(String rules, String roles, long sales) {
-        CrewShares x = new CrewShares();
-        if (Due.read(x, rules) < 0) {
-            throw new IllegalStateException("wrong rules in a test");
-        }
-        for (int i = 0; i < roles.length(); i++) {
-            x.person(roles.charAt(i) - '0');
-        }
+        CrewShares x = Due.made(rules, roles);
         x.trip(0, sales);
         return x;
     }
